@@ -330,7 +330,7 @@ public final class SlippedPlaces {
             return length;
         }
 
-        // Each sign of a DISK depends on where it stands alone; a page cannot be long enough for a fourth zone.
+        // Which signs a DISK can have next depends on the position alone: the page is too short for a fourth zone.
         private static boolean fits(int at, int code) {
             if (at == HEADS_AT) {
                 return code >= '1' && code <= '0' + MOST_HEADS;

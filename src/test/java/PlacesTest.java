@@ -71,6 +71,7 @@ public final class PlacesTest {
         x.harm(19, 2);
         due.is("none is left", x.of(0, 8), NONE);
         due.is("they are free ones still", x.count(5), 6);
+        due.are("place 0 can be one", Disks.ofAll(Disks.withDisk("1;1x4", 4), 8), 0, 0, 0, 0);
     }
 
     private static void ofRefuses() {

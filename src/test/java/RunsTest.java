@@ -16,6 +16,7 @@ public final class RunsTest {
         countsOfAll();
         digestOfNoDisk();
         digestOfADisk();
+        digestOfOneAddressAndOfBothSkews();
         due.end();
     }
 
@@ -142,6 +143,18 @@ public final class RunsTest {
         x.harm(0, 2);
         x.format(true);
         due.is("mean of 7", x.mean(), Double.doubleToLongBits((1260.0 + 1890 + 2520 + 2520 + 630 + 1260 + 1890) / 7));
+        SlippedPlaces y = Disks.withDisk("2;2x4", 0);
+        y.set(1, 1);
+        y.set(2, 2);
+        // the tracks' first angles are 0, 1, 2, 3 sectors on; each track has all four
+        due.is("a mean by both skews", y.mean(), Double.doubleToLongBits(1575.0));
+        y.set(0, 4);
+        y.format(false);
+        due.is("a mean without the last track", y.mean(), Double.doubleToLongBits(1575.0));
+        y.set(0, 3);
+        y.format(false);
+        due.is("a mean with the last track's first, at 1890", y.mean(), Double.doubleToLongBits((1575.0 * 12 + 2520) / 13));
+        due.is("mean of one alone", Disks.withDisk("1;1x5", 4).mean(), Double.doubleToLongBits(504.0));
         due.is("mean without an address", Disks.withDisk("1;1x4", 4).mean(), STATE);
     }
 
@@ -167,6 +180,8 @@ public final class RunsTest {
         due.is("skew(2), head skew 1", z.skew(2), 3);
         z.set(1, 0);
         due.is("skew(2), head skew 0", z.skew(2), 2);
+        due.is("skew(1) of one address", Disks.withDisk("1;1x5", 4).skew(1), 0);
+        highestSkew();
         long before = z.digest();
         int[] wrong = {0, 3, -1, Integer.MIN_VALUE, Integer.MAX_VALUE};
         for (int what : wrong) {
@@ -176,6 +191,17 @@ public final class RunsTest {
         due.is("digest after refusals", z.digest(), before);
         due.is("skew(1) without a disk", new SlippedPlaces().skew(1), STATE);
         due.is("skew(2) without an address", Disks.withDisk("1;1x4", 4).skew(2), STATE);
+    }
+
+    private static void highestSkew() {
+        SlippedPlaces x = Disks.withDisk("1;1x4,1x9");
+        // three sectors and 86 ticks end at 1976, past the seventh of nine and ahead of the eighth
+        x.set(4, 86);
+        due.is("skew(2) can be 8", x.skew(2), 8);
+        x.set(2, 8);
+        due.is("by which it takes", x.ticks(0, 11), 2240 + 8 * 280);
+        x.set(4, 70);
+        due.is("skew(2), just in time for 7", x.skew(2), 7);
     }
 
     private static void countsOfAll() {
@@ -237,6 +263,16 @@ public final class RunsTest {
             1, 5, 4, 0, 1, 0, 1, 2, 1, 0, 0, 200, 300, 0, 1);
         due.is("digest of a disk", x.digest(), before);
         due.is("digest changes nothing", x.digest(), before);
+        x.harm(0, 1);
+        x.read(0);
+        due.is("digest with address 0 pending", x.digest(), fold(1, 0, 0, 2, 4, -1, 1, 0, 2, 2, 0, 3, 0, 2, 1,
+            0, 4, 2, 3,
+            0, 2, 3,
+            3, 2, 2,
+            5040 - 504, Float.floatToIntBits(4 * 2520f / 4536), Double.doubleToLongBits(504.0 * 13 / 4), 0, 0,
+            'A',
+            1, 5, 4, 0, 1, 0, 1, 3, 1, 0, 0, 200, 300, 0, 1));
+        x.harm(0, 0);
         x.set(0, 4);
         x.format(true);
         due.is("digest of a disk without an address", x.digest(),
@@ -244,5 +280,20 @@ public final class RunsTest {
                 0, 0, -1,
                 'A',
                 1, 5, 0, 3, 0, 2, 0, 0, 4, 0, 0, 200, 300, 1, 1));
+    }
+
+    private static void digestOfOneAddressAndOfBothSkews() {
+        SlippedPlaces x = Disks.withDisk("1;1x5", 4);
+        due.is("digest of one address", x.digest(), fold(0, 0, 0, 0, 1, -1, 0, 1, -1, 0, 1, -1, 0, 1, -1,
+            0,
+            1, 1, 0,
+            504, Float.floatToIntBits(5f), Double.doubleToLongBits(504.0), 0, 0,
+            0, 5, 1, 0, 0, 4, 0, 0, 4, 0, 0, 200, 300, 0, 1));
+        SlippedPlaces y = Disks.withDisk("2;1x4", 0);
+        due.is("skew(1) ahead of skew(2)", y.digest(), fold(0, 0, 0, 0, 0, 1, 0, 0, 2, 0, 0, 3, 0, 0, 4, 0, 0, 5, 0, 0, 6, 0, 0, 7,
+            0, 1, 2, 3, 4, 5, 6, 7,
+            1, 8, 0,
+            7560, Float.floatToIntBits(8 * 2520f / 7560), Double.doubleToLongBits(1575.0), 1, 0,
+            0, 8, 8, 0, 0, 0, 0, 0, 0, 0, 0, 200, 300, 0, 1));
     }
 }
