@@ -1,3 +1,6 @@
+import java.util.function.IntUnaryOperator;
+import java.util.function.LongSupplier;
+
 /** Holds each answer against the one that is due, tells those that are not, and ends a test. */
 final class Due {
     private int asked;
@@ -27,8 +30,26 @@ final class Due {
         }
     }
 
+    /** A call that is refused, by digest() ahead of it and behind it: it changes nothing. */
+    void refused(String call, SlippedPlaces x, LongSupplier answer, long want) {
+        long before = x.digest();
+        is(call, answer.getAsLong(), want);
+        is("digest() behind the refused " + call, x.digest(), before);
+    }
+
+    /** A call of one number that is refused for each of these. */
+    void refuseAll(String call, SlippedPlaces x, int[] numbers, IntUnaryOperator answer, long want) {
+        for (int number : numbers) {
+            refused(call + "(" + number + ")", x, () -> answer.applyAsInt(number), want);
+        }
+    }
+
     boolean anyWrong() {
         return wrong > 0;
+    }
+
+    int howManyAsked() {
+        return asked;
     }
 
     void end() {
