@@ -67,6 +67,8 @@ public final class BoundsOfCountsTest {
         x.harm(3, 1);
         x.read(1);
         x.read(2);
+        x.harm(x.place(0), 1);
+        x.harm(x.place(x.count(2) - 1), 1);
         for (int what = 0; what < 5; what++) {
             x.set(what, what + 2);
         }

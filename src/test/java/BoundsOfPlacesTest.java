@@ -270,8 +270,10 @@ public final class BoundsOfPlacesTest {
         x.harm(5, 0);
         due.is("write(0), one good by now", x.write(0), 2);
         due.is("place(0)", x.place(0), 5);
-        x.harm(4, 0);
-        due.is("a taken one is not free", x.of(5, 8), 4);
+        SlippedPlaces taken = Disks.withDisk("1;1x6", 2);
+        taken.harm(0, 2);
+        taken.write(0);
+        due.is("a taken one is not free", taken.of(0, 8), 5);
         SlippedPlaces y = Disks.withDisk("1;1x4");
         y.harm(3, 2);
         y.format(true);
@@ -295,6 +297,7 @@ public final class BoundsOfPlacesTest {
         x.harm(47, 2);
         x.harm(15, 0);
         due.is("eight below", x.of(44, 8), 15);
+        due.is("a place next to it is not nearer than its own cylinder's", Disks.withDisk("1;1x4,1x9").of(4, 8), 12);
         SlippedPlaces y = Disks.withDisk("3;2x4", 4);
         due.is("the same cylinder, another head", y.of(12, 8), 20);
         due.is("one away", y.of(0, 8), 20);
@@ -324,13 +327,12 @@ public final class BoundsOfPlacesTest {
 
     private static void whereAPlaceLies(Due due) {
         SlippedPlaces x = Disks.withDisk("3;4x9,4x9,4x9");
-        int[] first = {0, 0, 0, 0};
-        int[] last = {11, 2, 8, 2};
-        int[] lastOfZoneOne = {7, 2, 8, 1};
-        for (int what = 0; what <= 3; what++) {
-            due.is("of(0, " + what + ")", x.of(0, what), first[what]);
-            due.is("of(323, " + what + ")", x.of(323, what), last[what]);
-            due.is("of(215, " + what + ")", x.of(215, what), lastOfZoneOne[what]);
+        int[] places = {0, 107, 108, 215, 216, 323}; // the first and the last of each zone
+        int[][] answers = {{0, 0, 0, 0}, {3, 2, 8, 0}, {4, 0, 0, 1}, {7, 2, 8, 1}, {8, 0, 0, 2}, {11, 2, 8, 2}};
+        for (int i = 0; i < places.length; i++) {
+            for (int what = 0; what <= 3; what++) {
+                due.is("of(" + places[i] + ", " + what + ")", x.of(places[i], what), answers[i][what]);
+            }
         }
     }
 

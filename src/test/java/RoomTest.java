@@ -3,7 +3,7 @@ import java.lang.management.ManagementFactory;
 
 /** All calls of a run live in one room: an object is made once, and its calls make nothing more. */
 public final class RoomTest {
-    private static final int CALLS = 512, SLACK = 4096;
+    private static final int CALLS = 512 - 15, SLACK = 4096;
 
     public static void main(String[] args) {
         Due due = new Due();
@@ -18,6 +18,7 @@ public final class RoomTest {
         due.end();
     }
 
+    /** As many calls as are left behind the 15 that typed the disk and told its spares. */
     private static long busyRun(SlippedPlaces x) {
         long sum = 0;
         for (int i = 0; i < CALLS / 8; i++) {
