@@ -393,6 +393,30 @@ public final class BoundsOfPlacesTest {
         y.set(0, 4);
         y.format(false);
         due.are("all are free", Disks.ofAll(y, 8), 0, 0, 0, 0);
+        theNearestWhateverItIsFor(due);
+    }
+
+    private static void theNearestWhateverItIsFor(Due due) {
+        SlippedPlaces x = Disks.withDisk("1;1x5,1x5,1x5", 2);
+        x.harm(5, 2);
+        x.format(true);
+        x.harm(10, 2);
+        x.write(5);
+        // free ones: 3, 4 (cylinder 0), 8, 9 (1), 14 (2)
+        due.are("what each is for", Disks.ofAll(x, 5), 0, 0, 0, 1, 1, 3, 0, 0, 1, 1, 4, 0, 0, 2, 1);
+        due.are("its own cylinder's, for all", Disks.ofAll(x, 8), 3, 3, 3, 3, 3, 8, 8, 8, 8, 8, 14, 14, 14, 14, 14);
+        int[] nearer = {3, 4, 8, 9};
+        for (int p : nearer) {
+            x.harm(p, 2);
+        }
+        x.harm(0, 2);
+        x.write(0);
+        for (int p : nearer) {
+            x.harm(p, 0);
+        }
+        due.is("place(0), far from its first one", x.place(0), 14);
+        due.is("of(14, 8), the taken one", x.of(14, 8), 8);
+        due.is("of(0, 8), the replaced one", x.of(0, 8), 3);
     }
 
     private static void ofRefuses(Due due) {
